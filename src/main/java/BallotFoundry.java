@@ -40,6 +40,9 @@ public final class BallotFoundry {
     private final SeatGiving giving = new SeatGiving();
 
     public BallotFoundry() {
+        for (int person = 0; person < MOST_PEOPLE; person++) {
+            people[person] = new Person();
+        }
     }
 
     // ---- the town
@@ -90,7 +93,8 @@ public final class BallotFoundry {
             throw new IllegalStateException("no more people");
         }
         int number = peopleHere;
-        people[number] = new Person(age, new Stay(now, crossing, null));
+        people[number].age = age;
+        people[number].latest = new Stay(now, crossing, null);
         peopleHere++;
         return number;
     }
@@ -456,13 +460,13 @@ public final class BallotFoundry {
         for (int person = 0; person < peopleHere; person++) {
             Person who = people[person];
             if (!who.hasDied && who.age <= election.day) {
-                election.roll.enter(person, chooseStation(who.crossingOn(rollDay)));
+                town.measureFrom(who.crossingOn(rollDay));
+                election.roll.enter(person, chooseStation());
             }
         }
     }
 
-    private int chooseStation(int crossing) {
-        town.measureFrom(crossing);
+    private int chooseStation() {
         int nearest = nearestWithSeat();
         if (nearest != NONE) {
             return nearest;
@@ -531,8 +535,8 @@ public final class BallotFoundry {
         private final int[] reached = new int[CROSSINGS];
 
         static int streetBetween(int one, int other) {
-            int low = Math.min(one, other);
-            int high = Math.max(one, other);
+            int low = one < other ? one : other;
+            int high = one < other ? other : one;
             if (low < 0 || high >= CROSSINGS) {
                 return NONE;
             }
@@ -620,14 +624,9 @@ public final class BallotFoundry {
     }
 
     private static final class Person {
-        private final int age;
-        private Stay latest;
+        private int age = 0;
+        private Stay latest = null;
         private boolean hasDied = false;
-
-        Person(int age, Stay first) {
-            this.age = age;
-            this.latest = first;
-        }
 
         int crossingOn(int day) {
             for (Stay stay = latest; stay != null; stay = stay.earlier) {

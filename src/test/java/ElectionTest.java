@@ -7,6 +7,7 @@ public final class ElectionTest {
         callRefuses();
         callNeedsADayInRange();
         callBeginsAnew();
+        secondElectionHasRowsOfItsOwn();
         seedsAreTold();
         seedsHaveTheirStages();
         daysPass();
@@ -16,6 +17,7 @@ public final class ElectionTest {
         rollTakesTheRollDay();
         rollStays();
         nearestStationWithSeat();
+        townThatIsFull();
         emptiestStationWithWay();
         stationWithoutWay();
         barsCountWhenTheRollIsMade();
@@ -103,6 +105,33 @@ public final class ElectionTest {
         check.due("seed", x.seed(2, 1), 0);
         x.advance(8);
         check.due("can vote again", x.vote(0, 0, 1), 1);
+    }
+
+    private static void secondElectionHasRowsOfItsOwn() {
+        BallotFoundry x = new BallotFoundry();
+        x.station(0, 20);
+        x.person(0, 0);
+        x.person(0, 0);
+        for (int election = 0; election < 3; election++) {
+            x.call(8, 2, false);
+            check.due("no lot of the one before", x.lots(), BallotFoundry.NONE);
+            x.advance(2);
+            check.due("envelope", x.early(0, election), 0);
+            check.due("sealed", x.stateOf(0), BallotFoundry.SEALED);
+            check.due("another envelope", x.early(1, election), 1);
+            x.advance(6);
+            check.due("opened", x.open(1), 1);
+            x.advance(1);
+            check.due("opened by the day's end", x.stateOf(0), BallotFoundry.OPENED);
+            check.due("ballots", x.ballots(0), 2);
+            check.due("no count of the one before", x.recount(0), 0);
+            check.due("a first count", x.count(0, 0), false);
+            check.due("a second count", x.count(0, 1), true);
+            for (int party = 0; party < 5; party++) {
+                check.due("votes", x.votes(party), party == election ? 2 : 0);
+                check.due("seats", x.seats(party), party == election ? 2 : 0);
+            }
+        }
     }
 
     private static void seedsAreTold() {
@@ -286,6 +315,35 @@ public final class ElectionTest {
         check.due("people of 1", x.peopleOf(1), 2);
         check.due("people of 2", x.peopleOf(2), 1);
         check.due("people of 3", x.peopleOf(3), 3);
+    }
+
+    private static void townThatIsFull() {
+        BallotFoundry x = new BallotFoundry();
+        for (int station = 0; station < 5; station++) {
+            x.station(7 * station, 3);
+        }
+        for (int person = 0; person < 20; person++) {
+            x.person(7 * (person % 5), 0);
+        }
+        x.call(8, 30, true);
+        x.advance(8);
+        for (int person = 0; person < 20; person++) {
+            check.due("station of " + person, x.stationOf(person), person % 5);
+            check.due("ballots", x.vote(person, person % 5, person % 5), person / 5 + 1);
+        }
+        x.advance(1);
+        for (int station = 0; station < 5; station++) {
+            check.due("people of " + station, x.peopleOf(station), 4);
+            x.count(station, 0);
+            check.due("settled", x.count(station, 1), true);
+        }
+        check.due("stage", x.stage(), BallotFoundry.DONE);
+        for (int party = 0; party < 5; party++) {
+            check.due("votes", x.votes(party), 4);
+            check.due("seats", x.seats(party), 6);
+            check.due("by ballots", x.seatsByBallots(party), 6);
+        }
+        check.due("lots", x.lots(), 6 * 4);
     }
 
     private static void emptiestStationWithWay() {

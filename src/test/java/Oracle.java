@@ -81,6 +81,14 @@ final class Oracle {
         return in(station, 0, stations.size() - 1);
     }
 
+    int peopleThere() {
+        return voters.size();
+    }
+
+    int stationsThere() {
+        return stations.size();
+    }
+
     // ---- the town
 
     private static boolean isStreet(int one, int other) {

@@ -95,11 +95,11 @@ public final class OracleTest {
     }
 
     private int pickPerson() {
-        return pick(0, 19);
+        return pick(0, Math.max(0, oracle.peopleThere() - 1));
     }
 
     private int pickStation() {
-        return pick(0, random.nextInt(10) == 0 ? 4 : 2);
+        return pick(0, Math.max(0, oracle.stationsThere() - 1));
     }
 
     /** Calls that bring the run on; false if none was made. */
@@ -107,9 +107,10 @@ public final class OracleTest {
         int dice = random.nextInt(100);
         switch (oracle.stage()) {
             case 0: case 5:
-                if (dice < 25) { person(); } else if (dice < 35) { station(); }
-                else if (dice < 45) { bars(); } else if (dice < 55) { call(); }
-                else if (dice < 58) { advance(); } else { return false; }
+                if (dice < 35) { person(); } else if (dice < 42) { station(); }
+                else if (dice < 52) { bars(); } else if (dice < 58) { call(); }
+                else if (dice < 61) { advance(); } else if (dice < 70) { allResults(); }
+                else { return false; }
                 return true;
             case 1:
                 if (dice < 15) { person(); } else if (dice < 20) { bars(); }
@@ -118,17 +119,17 @@ public final class OracleTest {
                 else { return false; }
                 return true;
             case 2:
-                if (dice < 50) { early(); } else if (dice < 55) { advance(); }
-                else if (dice < 60) { die(); } else { return false; }
+                if (dice < 40) { early(); } else if (dice < 55) { advance(); }
+                else if (dice < 56) { die(); } else { return false; }
                 return true;
             case 3:
-                if (dice < 50) { vote(); } else if (dice < 58) { open(); }
-                else if (dice < 62) { advance(); } else if (dice < 64) { die(); }
+                if (dice < 50) { vote(); } else if (dice < 68) { open(); }
+                else if (dice < 72) { advance(); } else if (dice < 73) { die(); }
                 else { return false; }
                 return true;
             default:
-                if (dice < 40) { count(); } else if (dice < 44) { recount(); }
-                else if (dice < 55) { slip(); } else { return false; }
+                if (dice < 70) { count(); } else if (dice < 73) { recount(); }
+                else if (dice < 79) { slip(); } else { return false; }
                 return true;
         }
     }
@@ -297,14 +298,19 @@ public final class OracleTest {
             case 11: person(); break;
             case 12: if (random.nextInt(4) == 0) { die(); } break;
             case 13: bars(); break;
-            default: for (int party = 0; party < 5; party++) { results(party); } break;
+            default: if (random.nextInt(10) == 0) { allResults(); } break;
         }
     }
 
-    private void results(int party) {
-        same("votes " + party, () -> x.votes(party), () -> oracle.votes(party));
-        same("seats " + party, () -> x.seats(party), () -> oracle.seats(party));
-        same("seatsByBallots " + party, () -> x.seatsByBallots(party), () -> oracle.seatsByBallots(party));
+    private void allResults() {
+        for (int each = 0; each < 5; each++) {
+            int party = each;
+            same("votes " + party, () -> x.votes(party), () -> oracle.votes(party));
+            same("seats " + party, () -> x.seats(party), () -> oracle.seats(party));
+            same("seatsByBallots " + party, () -> x.seatsByBallots(party), () -> oracle.seatsByBallots(party));
+        }
+        int place = pick(0, 29);
+        same("seatAt " + place, () -> x.seatAt(place), () -> oracle.seatAt(place));
         same("lots", x::lots, oracle::lots);
     }
 }

@@ -5,6 +5,7 @@ public final class TownTest {
     public static void main(String[] args) {
         newObject();
         barAnswersWhatWas();
+        barBarsOneStreet();
         barNeedsAStreet();
         wayIsTheFewestStreets();
         wayGoesRoundWhatIsBarred();
@@ -54,6 +55,32 @@ public final class TownTest {
         check.due("the last street to the right", x.bar(34, 35, true), false);
         check.due("way to the corner that is shut", x.way(0, 35), BallotFoundry.NONE);
         check.due("another street is as it was", x.bar(28, 34, true), false);
+    }
+
+    private static void barBarsOneStreet() {
+        for (int one = 0; one < 36; one++) {
+            for (int step = 1; step <= 6; step += 5) {
+                if (step == 1 ? one % 6 == 5 : one >= 30) {
+                    continue;
+                }
+                BallotFoundry x = new BallotFoundry();
+                x.bar(one, one + step, true);
+                check.due("barred " + one, x.way(one, one + step), 3);
+                check.due("other streets that " + one + " bars", barredBut(x, one, one + step), 0);
+                check.due("barred still " + one, x.bar(one + step, one, false), true);
+            }
+        }
+    }
+
+    private static int barredBut(BallotFoundry x, int one, int other) {
+        int barred = 0;
+        for (int from = 0; from < 36; from++) {
+            boolean isRight = from % 6 != 5 && !(from == one && from + 1 == other);
+            boolean isBelow = from < 30 && !(from == one && from + 6 == other);
+            barred += isRight && x.bar(from, from + 1, false) ? 1 : 0;
+            barred += isBelow && x.bar(from, from + 6, false) ? 1 : 0;
+        }
+        return barred;
     }
 
     private static void barNeedsAStreet() {

@@ -746,7 +746,9 @@ public final class BallotFoundry {
         void clear() {
             Arrays.fill(stationsOfPeople, NONE);
             Arrays.fill(peopleOfStations, 0);
-            Arrays.fill(hasVoted, false);
+            for (int person = 0; person < MOST_PEOPLE; person++) {
+                hasVoted[person] = false;
+            }
         }
 
         void enter(int person, int station) {

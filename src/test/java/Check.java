@@ -1,3 +1,6 @@
+import java.util.function.Consumer;
+import java.util.function.Supplier;
+
 /** Counts the answers that are not the ones due, for one test program. */
 final class Check {
     static final Class<? extends RuntimeException> INDEX = IndexOutOfBoundsException.class;
@@ -5,19 +8,21 @@ final class Check {
     static final Class<? extends RuntimeException> STATE = IllegalStateException.class;
 
     private final String name;
+    private final boolean isQuiet;
     private int checked = 0;
     private int wrong = 0;
 
     Check(String name) {
+        this(name, false);
+    }
+
+    Check(String name, boolean isQuiet) {
         this.name = name;
+        this.isQuiet = isQuiet;
     }
 
     void due(String what, long got, long want) {
-        checked++;
-        if (got != want) {
-            wrong++;
-            System.out.println(name + ": " + what + " answered " + got + ", due is " + want);
-        }
+        due(what, Long.toString(got), Long.toString(want));
     }
 
     void due(String what, boolean got, boolean want) {
@@ -25,32 +30,50 @@ final class Check {
     }
 
     void due(String what, String got, String want) {
-        checked++;
-        if (!want.equals(got)) {
-            wrong++;
-            System.out.println(name + ": " + what + " answered " + got + ", due is " + want);
-        }
+        count(want.equals(got), what + " answered " + got + ", due is " + want);
     }
 
     /** The very class is due: one that the machine throws may be of a class below it. */
     void fails(String what, Class<? extends RuntimeException> kind, Runnable call) {
-        checked++;
         String got = "nothing";
         try {
             call.run();
         } catch (RuntimeException thrown) {
             got = thrown.getClass().getName();
         }
-        if (!kind.getName().equals(got)) {
-            wrong++;
-            System.out.println(name + ": " + what + " threw " + got + ", due is " + kind.getName());
-        }
+        count(kind.getName().equals(got), what + " threw " + got + ", due is " + kind.getName());
+    }
+
+    /** The call throws, and an object on which it was made is like one on which it was not. */
+    void refused(String what, Class<? extends RuntimeException> kind, Supplier<BallotFoundry> made,
+            Consumer<BallotFoundry> call) {
+        BallotFoundry x = made.get();
+        fails(what, kind, () -> call.accept(x));
+        due(what + ", and changes nothing", Picture.of(x), Picture.of(made.get()));
+    }
+
+    int checked() {
+        return checked;
+    }
+
+    int wrong() {
+        return wrong;
     }
 
     void end() {
         System.out.println(name + ": " + checked + " checked, " + wrong + " wrong");
         if (wrong > 0 || checked == 0) {
             System.exit(1);
+        }
+    }
+
+    private void count(boolean isRight, String what) {
+        checked++;
+        if (!isRight) {
+            wrong++;
+            if (!isQuiet) {
+                System.out.println(name + ": " + what);
+            }
         }
     }
 }

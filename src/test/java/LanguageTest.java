@@ -14,7 +14,8 @@ public final class LanguageTest {
     private static final Set<String> LIBRARY = Set.of("Arrays.fill", "Integer.compare", "Math.max");
     private static final List<String> REFUSED = List.of("->", "::", "\\btry\\b", "\\bcatch\\b", "\\bfinally\\b",
         "\\bsynchronized\\b", "\\bassert\\b", "\\bpackage\\b", "\\bprotected\\b", "\\bSystem\\b", "\\bObject\\b",
-        "\\bstatic\\s*\\{", "\"\\s*\\+", "\\+\\s*\"", "\\bequals\\b", "\\bhashCode\\b", "\\btoString\\b");
+        "\\bstatic\\s*\\{", "\\.fill\\(\\w+, (true|false)\\)", "\"\\s*\\+", "\\+\\s*\"", "\\bequals\\b",
+        "\\bhashCode\\b", "\\btoString\\b");
 
     public static void main(String[] args) throws Exception {
         String source = Files.readString(Path.of("src/main/java/BallotFoundry.java"));

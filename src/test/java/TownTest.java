@@ -33,13 +33,18 @@ public final class TownTest {
             check.due("slip", x.setSlip(clerk, 0), 0);
         }
         for (int one = 0; one < 36; one++) {
-            for (int other = 0; other < 36; other++) {
-                int rows = Math.abs(one / 6 - other / 6);
-                int columns = Math.abs(one % 6 - other % 6);
-                check.due("way " + one + " " + other, x.way(one, other), rows + columns);
-                if (rows + columns == 1) {
-                    check.due("bar " + one + " " + other, x.bar(one, other, false), false);
-                }
+            waysOfANewObject(one);
+        }
+    }
+
+    private static void waysOfANewObject(int one) {
+        BallotFoundry x = new BallotFoundry();
+        for (int other = 0; other < 36; other++) {
+            int rows = Math.abs(one / 6 - other / 6);
+            int columns = Math.abs(one % 6 - other % 6);
+            check.due("way " + one + " " + other, x.way(one, other), rows + columns);
+            if (rows + columns == 1) {
+                check.due("bar " + one + " " + other, x.bar(one, other, false), false);
             }
         }
     }

@@ -6,7 +6,8 @@ final class BookSentences {
     }
 
     @Sentence(promise = 36, value = "Returns how many notes the book of the latest election has.")
-    @Broken(at = "public int notes()", from = "return election.book.size;", to = "return Math.min(119, election.book.size);")
+    @Broken(at = "public int notes()", from = "return election.book.size;",
+        to = "return Math.min(119, election.book.size);")
     @Broken(from = "book.size = 0;")
     @Broken(at = "boolean voidEnvelopeOf(", from = "election.book.write(now, 'x', person);")
     static void notesAreCounted(Check check) {
@@ -31,15 +32,12 @@ final class BookSentences {
     @Broken(from = "MOST_NOTES = 512 + MOST_ENVELOPES", to = "MOST_NOTES = 512")
     static void notesAreAsManyAsCallsCanWrite(Check check) {
         BallotFoundry x = Ready.early(1);
-        int calls = 4;
-        int notes = 0;
         for (int envelope = 0; envelope < 60; envelope++) {
             x.early(0, 1);
-            calls++;
         }
         x.advance(7);
-        calls++;
-        notes = 120;
+        int calls = 4 + 60 + 1;
+        int notes = 60 + 59 + 1;
         while (calls < 508) {
             for (int count = 0; count < 8 && calls < 508; count++) {
                 x.count(0, 0);
@@ -120,7 +118,8 @@ final class BookSentences {
     @Sentence(promise = 37, value = "Throws `IndexOutOfBoundsException` if there is no such note,")
     @Broken(at = "public int signAt(", from = "note >= election.book.size", to = "note > election.book.size")
     @Broken(at = "public int signAt(", from = "note < 0 ||")
-    @Broken(at = "public int signAt(", from = "if (note < 0 || note >= election.book.size) { throw new IndexOutOfBoundsException(\"no such note\"); }")
+    @Broken(at = "public int signAt(",
+        from = "if (note < 0 || note >= election.book.size) { throw new IndexOutOfBoundsException(\"no such note\"); }")
     static void signAtNeedsANote(Check check) {
         check.refused("there is no election", Check.INDEX, BallotFoundry::new, x -> x.signAt(0, 0));
         check.refused("there is none", Check.INDEX, () -> Ready.early(1), x -> x.signAt(0, 0));
@@ -131,7 +130,8 @@ final class BookSentences {
     }
 
     @Sentence(promise = 37, value = "or place is below 0")
-    @Broken(at = "public int signAt(", from = "if (place < 0) { throw new IndexOutOfBoundsException(\"no such place\"); }")
+    @Broken(at = "public int signAt(",
+        from = "if (place < 0) { throw new IndexOutOfBoundsException(\"no such place\"); }")
     @Broken(at = "public int signAt(", from = "if (place < 0)", to = "if (place < -1)")
     static void signAtNeedsAPlace(Check check) {
         check.refused("below", Check.INDEX, BookSentences::withTwoNotes, x -> x.signAt(1, -1));

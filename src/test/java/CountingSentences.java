@@ -118,10 +118,12 @@ final class CountingSentences {
         }
     }
 
-    @Sentence(promise = 26, value = {"A clerk counts the box of a station.", "Returns whether the station is settled then."})
+    @Sentence(promise = 26, value = {"A clerk counts the box of a station.",
+        "Returns whether the station is settled then."})
     @Broken(at = "public boolean count(", from = "return box.hasNumbers();", to = "return election.stage == DONE;")
     @Broken(at = "public boolean count(", from = "return box.hasNumbers();", to = "return box.counts > 1;")
-    @Broken(at = "public boolean count(", from = "Box box = election.boxes[station];", to = "Box box = election.boxes[0];")
+    @Broken(at = "public boolean count(", from = "Box box = election.boxes[station];",
+        to = "Box box = election.boxes[0];")
     static void countTellsWhetherItIsSettled(Check check) {
         BallotFoundry x = countingTwo();
         check.due("a first count", x.count(0, 3), false);
@@ -187,7 +189,8 @@ final class CountingSentences {
     }
 
     @Sentence(promise = 26, value = "the station is none of the election,")
-    @Broken(from = "if (station >= election.stationsOfIt) { throw new IllegalStateException(\"no station of the election\"); }")
+    @Broken(from = "if (station >= election.stationsOfIt) "
+        + "{ throw new IllegalStateException(\"no station of the election\"); }")
     @Broken(from = "station >= election.stationsOfIt", to = "station > election.stationsOfIt")
     @Broken(from = "station >= election.stationsOfIt", to = "station + 1 >= election.stationsOfIt")
     static void countNeedsAStationOfTheElection(Check check) {
@@ -233,7 +236,8 @@ final class CountingSentences {
     @Sentence(promise = 27, value = "Throws all counts of a station away, so that it can be counted anew;")
     @Broken(at = "int dropCounts()", from = "counts = 0;")
     @Broken(at = "int dropCounts()", from = "counts = 0;", to = "counts = Math.max(0, counts - 1);")
-    @Broken(at = "public int recount(", from = "election.boxes[station].dropCounts()", to = "election.boxes[0].dropCounts()")
+    @Broken(at = "public int recount(", from = "election.boxes[station].dropCounts()",
+        to = "election.boxes[0].dropCounts()")
     static void recountThrowsAllAway(Check check) {
         BallotFoundry x = countingTwo();
         x.count(0, 0);
@@ -320,7 +324,8 @@ final class CountingSentences {
         }
     }
 
-    @Sentence(promise = 28, value = {"Tells whether a station is settled.", "Returns whether it is, in the latest election."})
+    @Sentence(promise = 28, value = {"Tells whether a station is settled.",
+        "Returns whether it is, in the latest election."})
     @Broken(at = "public boolean isSettled(", from = "election.boxes[station].hasNumbers()",
         to = "election.boxes[0].hasNumbers()")
     @Broken(at = "public boolean isSettled(", from = "return", to = "return election.stage == DONE &&")
@@ -462,8 +467,8 @@ final class CountingSentences {
         return x.misread(0);
     }
 
-    @Sentence(promise = 30, value = {"Returns how many ballots a station that is settled has in its numbers for another party, "
-        + "or BLANK, than its box.",
+    @Sentence(promise = 30, value = {
+        "Returns how many ballots a station that is settled has in its numbers for another party, or BLANK, than its box.",
         "Returns the differences by which a party, or BLANK, has more in the box than in the numbers, together;"})
     @Broken(from = "lost += Math.max(0, ballotsFor(kind) - settledNumber(kind));",
         to = "lost += Math.abs(ballotsFor(kind) - settledNumber(kind));")

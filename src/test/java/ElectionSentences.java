@@ -302,7 +302,8 @@ final class ElectionSentences {
     }
 
     @Sentence(promise = 14, value = "Returns the stage of the latest election;")
-    @Broken(at = "public int stage()", from = "return election.stage;", to = "return Math.min(election.stage, COUNTING);")
+    @Broken(at = "public int stage()", from = "return election.stage;",
+        to = "return Math.min(election.stage, COUNTING);")
     @Broken(from = "stage = CALLED;")
     @Broken(from = "election.stage = VOTING;", to = "election.stage = COUNTING;")
     static void stageIsTheLatestElections(Check check) {
@@ -318,7 +319,8 @@ final class ElectionSentences {
 
     @Sentence(promise = 14, value = "NO_ELECTION without one.")
     @Broken(from = "private int stage = NO_ELECTION;", to = "private int stage = DONE;")
-    @Broken(from = "private void beginDay() {", to = "private void beginDay() { if (now == 1) { election.stage = DONE; }")
+    @Broken(from = "private void beginDay() {",
+        to = "private void beginDay() { if (now == 1) { election.stage = DONE; }")
     static void stageWithoutAnElection(Check check) {
         BallotFoundry x = new BallotFoundry();
         check.due("of a new object", x.stage(), BallotFoundry.NO_ELECTION);

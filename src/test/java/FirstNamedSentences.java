@@ -92,7 +92,8 @@ final class FirstNamedSentences {
     }
 
     @Sentence(WORDS)
-    @Broken(at = "public int seed(", from = "needParty(party);", to = "needRange(seed, 0, MOST_SEED); needParty(party);")
+    @Broken(at = "public int seed(", from = "needParty(party);",
+        to = "needRange(seed, 0, MOST_SEED); needParty(party);")
     @Broken(at = "public int seed(", from = "needParty(party);", to = "needStage(CALLED); needParty(party);")
     @Broken(at = "public int seed(", from = "needRange(seed", to = "needStage(CALLED); needRange(seed")
     static void ofSeed(Check check) {
@@ -145,7 +146,8 @@ final class FirstNamedSentences {
 
     @Sentence(WORDS)
     @Broken(at = "public int vote(", from = "Person who", to = "needRange(party, 0, BLANK); Person who")
-    @Broken(at = "public int vote(", from = "needStation(station);", to = "needRange(party, 0, BLANK); needStation(station);")
+    @Broken(at = "public int vote(", from = "needStation(station);",
+        to = "needRange(party, 0, BLANK); needStation(station);")
     @Broken(at = "public int vote(", from = "Person who", to = "needStage(VOTING); Person who")
     @Broken(at = "public int vote(", from = "needStation(station);", to = "needStage(VOTING); needStation(station);")
     @Broken(at = "public int vote(", from = "needRange(party", to = "needStage(VOTING); needRange(party")
@@ -182,7 +184,8 @@ final class FirstNamedSentences {
     @Sentence(WORDS)
     @Broken(at = "public int open(", from = "needPerson(person);", to = "needStage(VOTING); needPerson(person);")
     @Broken(at = "public int open(", from = "needPerson(person);",
-        to = "if (election.envelopes.sealedOf(person) == NONE) { throw new IllegalStateException(); } needPerson(person);")
+        to = "if (election.envelopes.sealedOf(person) == NONE) { throw new IllegalStateException(); } "
+            + "needPerson(person);")
     static void ofOpen(Check check) {
         BallotFoundry x = Ready.early(1);
         check.fails("no person, and EARLY", Check.INDEX, () -> x.open(1));
@@ -191,7 +194,8 @@ final class FirstNamedSentences {
     }
 
     @Sentence(WORDS)
-    @Broken(at = "public int setSlip(", from = "needClerk(clerk);", to = "needRange(slip, 0, MOST_SLIP); needClerk(clerk);")
+    @Broken(at = "public int setSlip(", from = "needClerk(clerk);",
+        to = "needRange(slip, 0, MOST_SLIP); needClerk(clerk);")
     @Broken(at = "public int setSlip(", from = "needClerk(clerk);",
         to = "if (slip == 1) { throw new IllegalArgumentException(); } needClerk(clerk);")
     static void ofSetSlip(Check check) {
@@ -201,7 +205,8 @@ final class FirstNamedSentences {
     }
 
     @Sentence(WORDS)
-    @Broken(at = "public boolean count(", from = "needStation(station);", to = "needStage(COUNTING); needStation(station);")
+    @Broken(at = "public boolean count(", from = "needStation(station);",
+        to = "needStage(COUNTING); needStation(station);")
     @Broken(at = "public boolean count(", from = "needClerk(clerk);", to = "needStage(COUNTING); needClerk(clerk);")
     static void ofCount(Check check) {
         BallotFoundry x = Ready.voting(0);
@@ -215,7 +220,8 @@ final class FirstNamedSentences {
     @Broken(at = "public boolean count(", from = "needClerk(clerk);",
         to = "if (election.boxes[station].hasNumbers()) { throw new IllegalStateException(); } needClerk(clerk);")
     @Broken(at = "public boolean count(", from = "needClerk(clerk);",
-        to = "if (election.boxes[station].counts >= MOST_COUNTS) { throw new IllegalStateException(); } needClerk(clerk);")
+        to = "if (election.boxes[station].counts >= MOST_COUNTS) { throw new IllegalStateException(); } "
+            + "needClerk(clerk);")
     static void ofCountWhileCounting(Check check) {
         BallotFoundry x = Ready.twoStations();
         x.station(0, 0);
@@ -230,7 +236,8 @@ final class FirstNamedSentences {
     }
 
     @Sentence(WORDS)
-    @Broken(at = "public int recount(", from = "needStation(station);", to = "needStage(COUNTING); needStation(station);")
+    @Broken(at = "public int recount(", from = "needStation(station);",
+        to = "needStage(COUNTING); needStation(station);")
     static void ofRecount(Check check) {
         BallotFoundry x = Ready.voting(0);
         check.fails("no station, and VOTING", Check.INDEX, () -> x.recount(1));

@@ -279,7 +279,8 @@ final class PeopleSentences {
     @Broken(at = "public int dwells(", from = "return who.crossingOn(day);",
         to = "return who.hasDied ? NONE : who.crossingOn(day);")
     @Broken(from = "stay = stay.earlier) { if (stay.day <= day) { return stay.crossing; } } return NONE;",
-        to = "stay = stay.earlier) { if (stay.day <= day || stay.earlier == null) { return stay.crossing; } } return NONE;")
+        to = "stay = stay.earlier) { if (stay.day <= day || stay.earlier == null) { return stay.crossing; } } "
+            + "return NONE;")
     static void dwellsBehindDeathAndAheadOfComing(Check check) {
         BallotFoundry x = Ready.on(5);
         x.person(3, 0);

@@ -106,6 +106,18 @@ final class Ready {
         return x;
     }
 
+    /** Five stations, each with a person of its number, on the day of an election for 5 seats. */
+    static BallotFoundry votingAtFive() {
+        BallotFoundry x = new BallotFoundry();
+        for (int station = 0; station < 5; station++) {
+            x.station(station, 1);
+            x.person(station, 0);
+        }
+        x.call(8, 5, false);
+        x.advance(8);
+        return x;
+    }
+
     /** No election has been called in it. */
     static BallotFoundry on(int day) {
         BallotFoundry x = new BallotFoundry();

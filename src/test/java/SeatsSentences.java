@@ -25,7 +25,8 @@ final class SeatsSentences {
     @Sentence(promise = 31, value = {"Returns the votes of a party in the latest election.", "Returns the votes;"})
     @Broken(at = "public int votes(", from = "election.numbersFor(party)", to = "election.ballotsFor(party)")
     @Broken(at = "public int votes(", from = "election.numbersFor(party)", to = "election.numbersFor(0)")
-    @Broken(at = "public int votes(", from = "election.numbersFor(party)", to = "Math.min(19, election.numbersFor(party))")
+    @Broken(at = "public int votes(", from = "election.numbersFor(party)",
+        to = "Math.min(19, election.numbersFor(party))")
     static void votesAreTold(Check check) {
         BallotFoundry x = misreadInCounting(0);
         Ready.settle(x, 0);
@@ -210,7 +211,8 @@ final class SeatsSentences {
     }
 
     @Sentence(promise = 33, value = "Throws `IndexOutOfBoundsException` if place is below 0")
-    @Broken(at = "public int seatAt(", from = "if (place < 0) { throw new IndexOutOfBoundsException(\"no such place\"); }")
+    @Broken(at = "public int seatAt(",
+        from = "if (place < 0) { throw new IndexOutOfBoundsException(\"no such place\"); }")
     @Broken(at = "public int seatAt(", from = "if (place < 0)", to = "if (place < -1)")
     @Broken(at = "public int seatAt(", from = "if (place < 0)", to = "if (place < 0 && election.stage == DONE)")
     static void seatAtNeedsAPlace(Check check) {
@@ -285,6 +287,7 @@ final class SeatsSentences {
 
     @Sentence(promise = 35, value = "found from all boxes at once,")
     @Broken(at = "int ballotsFor(int party)", from = "station < stationsOfIt", to = "station < stationsOfIt - 1")
+    @Broken(at = "int ballotsFor(int party)", from = "station < stationsOfIt", to = "station <= stationsOfIt")
     @Broken(at = "int ballotsFor(int party)", from = "sum += ", to = "sum = ")
     static void seatsByBallotsAreFromAllBoxes(Check check) {
         BallotFoundry x = Ready.twoStations();
@@ -296,6 +299,14 @@ final class SeatsSentences {
         x.advance(1);
         check.due("for two ballots in the box 1", x.seatsByBallots(2), 2);
         check.due("for one in the box 0", x.seatsByBallots(3), 1);
+        BallotFoundry y = Ready.votingAtFive();
+        for (int person = 0; person < 5; person++) {
+            y.vote(person, person, 4 - person);
+        }
+        y.advance(1);
+        for (int party = 0; party < 5; party++) {
+            check.due("one in each of five boxes", y.seatsByBallots(party), 1);
+        }
     }
 
     @Sentence(promise = 35, value = "and given likewise, with lots from the first number on.")
@@ -325,7 +336,8 @@ final class SeatsSentences {
     }
 
     @Sentence(promise = 35, value = "NONE ahead of COUNTING.")
-    @Broken(at = "public int seatsByBallots(", from = "if (election.stage != COUNTING && election.stage != DONE) { return NONE; }")
+    @Broken(at = "public int seatsByBallots(",
+        from = "if (election.stage != COUNTING && election.stage != DONE) { return NONE; }")
     @Broken(at = "public int seatsByBallots(", from = "election.stage != COUNTING && election.stage != DONE",
         to = "election.stage != DONE")
     @Broken(at = "public int seatsByBallots(", from = "election.stage != COUNTING && election.stage != DONE",

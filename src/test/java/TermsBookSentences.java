@@ -10,8 +10,8 @@ final class TermsBookSentences {
         }
     }
 
-    @Sentence("The book of an election has a note for each early vote, voided envelope, vote, opened envelope and count, "
-        + "in the order in which they happen.")
+    @Sentence("The book of an election has a note for each early vote, voided envelope, vote, opened envelope "
+        + "and count, in the order in which they happen.")
     @Broken(at = "public int early(", from = "election.book.write(now, 'e', person);")
     @Broken(at = "boolean voidEnvelopeOf(", from = "election.book.write(now, 'x', person);")
     @Broken(at = "public int vote(", from = "election.book.write(now, 'v', person);")
@@ -121,7 +121,8 @@ final class TermsBookSentences {
     @Broken(from = "write(now, 'e', person)", to = "write(now, 'e', person % 10)")
     @Broken(from = "write(now, 'x', person)", to = "write(now, 'x', person % 10)")
     @Broken(from = "write(now, 'v', person)", to = "write(now, 'v', person % 10)")
-    @Broken(at = "void openEnvelope(", from = "book.write(day, sign, person);", to = "book.write(day, sign, person % 10);")
+    @Broken(at = "void openEnvelope(", from = "book.write(day, sign, person);",
+        to = "book.write(day, sign, person % 10);")
     static void notesTellThePerson(Check check) {
         BallotFoundry x = Ready.early(20);
         x.early(0, 1);

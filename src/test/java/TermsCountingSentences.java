@@ -25,13 +25,10 @@ final class TermsCountingSentences {
     @Broken(from = "CLERKS = 4", to = "CLERKS = 5")
     @Broken(at = "void needClerk(", from = "clerk < 0", to = "clerk <= 0")
     static void clerksAreFour(Check check) {
-        BallotFoundry x = Ready.counting(0);
         for (int clerk = 0; clerk < 4; clerk++) {
-            check.due("a count by " + clerk, x.count(0, clerk), clerk > 0);
-            if (clerk > 0) {
-                x = Ready.counting(0);
-                x.count(0, 0);
-            }
+            BallotFoundry x = Ready.counting(0);
+            check.due("a count by " + clerk, x.count(0, clerk), false);
+            check.due("a count by the next behind " + clerk, x.count(0, (clerk + 1) % 4), true);
         }
         BallotFoundry y = Ready.counting(0);
         check.fails("ahead of the first", Check.INDEX, () -> y.count(0, -1));
@@ -75,15 +72,7 @@ final class TermsCountingSentences {
         check.due("the last one alone", readWith(7, 0, 0, 0, 0, 0, 0, 0), "610000");
         check.due("none, behind the last one", readWith(8, 0, 0, 0, 0, 0, 0, 0), "700000");
         check.due("none of an empty box", readWith(2), "000000");
-        int[] full = new int[20];
-        StringBuilder numbers = new StringBuilder();
-        BallotFoundry x = Ready.counting(full);
-        x.setSlip(2, 20);
-        x.setSlip(3, 20);
-        x.count(0, 2);
-        x.count(0, 3);
-        numbers.append(x.numberOf(0, 0)).append(' ').append(x.numberOf(0, 1));
-        check.due("the twentieth of a full box", numbers.toString(), "19 1");
+        check.due("the twentieth of a full box", readWith(20, new int[20]), "1910000");
     }
 
     @Sentence("the party p as p + 1, 4 as BLANK, BLANK as 0.")
@@ -174,8 +163,10 @@ final class TermsCountingSentences {
 
     @Sentence("The votes of a party are the sum of its numbers over all stations.")
     @Broken(at = "int numbersFor(", from = "sum += ", to = "sum = ")
+    @Broken(at = "int numbersFor(", from = "station < stationsOfIt", to = "station <= stationsOfIt")
     @Broken(at = "int numbersFor(", from = "station < stationsOfIt", to = "station < stationsOfIt - 1")
-    @Broken(at = "int numbersFor(", from = "boxes[station].settledNumber(party)", to = "boxes[station].ballotsFor(party)")
+    @Broken(at = "int numbersFor(", from = "boxes[station].settledNumber(party)",
+        to = "boxes[station].ballotsFor(party)")
     static void votesAreSumsOfNumbers(Check check) {
         BallotFoundry x = Ready.twoStations();
         x.advance(6);
@@ -190,6 +181,15 @@ final class TermsCountingSentences {
         check.due("two of the station 0, and one of 1", x.votes(3), 3);
         check.due("one of the station 1, misread", x.votes(4), 1);
         check.due("a party without any", x.votes(0), 0);
+        BallotFoundry y = Ready.votingAtFive();
+        for (int person = 0; person < 5; person++) {
+            y.vote(person, person, 3);
+        }
+        y.advance(1);
+        for (int station = 0; station < 5; station++) {
+            Ready.settle(y, station);
+        }
+        check.due("one of each of five stations", y.votes(3), 5);
     }
 
     @Sentence("The seats are given one by one: each time to the party with the greatest quotient of its votes, "
@@ -211,6 +211,7 @@ final class TermsCountingSentences {
     @Sentence("or, if the election is by odd ones, by (twice how many it has, and 1),")
     @Broken(from = "2 * seats[party] + 1", to = "seats[party] + 1")
     @Broken(from = "2 * seats[party] + 1", to = "2 * seats[party] + 2")
+    @Broken(from = "2 * seats[party] + 1", to = "3 * seats[party] + 1")
     @Broken(from = "return isOdd ?", to = "return !isOdd ?")
     @Broken(from = "isOdd = isByOddOnes;")
     static void seatsByOddOnes(Check check) {
@@ -218,6 +219,8 @@ final class TermsCountingSentences {
         BallotFoundry x = Ready.given(6, true, 0, 5, 0, 7, 3);
         check.due("in their order", Ready.orderOf(x), "203202");
         check.due("no lot", x.lots(), 0);
+        // 8, 8/3, 2, 8/5, 8/7
+        check.due("by 1, 3, 5 and 7", Ready.orderOf(Ready.given(5, true, 0, 8, 2)), "00100");
     }
 
     @Sentence("as exact fractions.")

@@ -3,7 +3,7 @@ final class TermsElectionSentences {
     private TermsElectionSentences() {
     }
 
-    /** So many people at the crossing 0, an election on the day 8, and the stations at these crossings with these seats. */
+    /** So many people at the crossing 0, stations at these crossings with these seats, and the roll of an election. */
     private static BallotFoundry rolled(int people, int... crossingsAndSeats) {
         BallotFoundry x = new BallotFoundry();
         for (int at = 0; at < crossingsAndSeats.length; at += 2) {
@@ -74,7 +74,8 @@ final class TermsElectionSentences {
 
     @Sentence("on it is each person who has not died")
     @Broken(from = "!who.hasDied && who.age", to = "who.age")
-    @Broken(from = "person < peopleHere; person++) { Person who", to = "person < peopleHere - 1; person++) { Person who")
+    @Broken(from = "person < peopleHere; person++) { Person who",
+        to = "person < peopleHere - 1; person++) { Person who")
     static void rollHasWhoHasNotDied(Check check) {
         BallotFoundry x = Ready.town(4);
         x.die(0);
@@ -269,7 +270,8 @@ final class TermsElectionSentences {
     @Broken(from = "election.stage = VOTING;")
     @Broken(from = "election.stage = COUNTING;")
     @Broken(from = "now == election.day + 1", to = "now == election.day + 2")
-    @Broken(from = "election.stage == EARLY && now == election.day", to = "election.stage == EARLY && now == election.day - 1")
+    @Broken(from = "election.stage == EARLY && now == election.day",
+        to = "election.stage == EARLY && now == election.day - 1")
     static void votingOnItsDayAndCountingThen(Check check) {
         BallotFoundry x = Ready.town(0);
         x.call(8, 0, false);
@@ -424,7 +426,8 @@ final class TermsElectionSentences {
 
     @Sentence("On the day of the election a person on the roll can vote at its own station, once:")
     @Broken(at = "public int vote(", from = "needStage(VOTING);", to = "needStage(EARLY);")
-    @Broken(at = "public int vote(", from = "if (election.roll.hasVoted[person]) { throw new IllegalStateException(\"the person has voted\"); }")
+    @Broken(at = "public int vote(",
+        from = "if (election.roll.hasVoted[person]) { throw new IllegalStateException(\"the person has voted\"); }")
     @Broken(at = "public int vote(", from = "election.roll.stationFor(person) != station", to = "station != 0")
     static void votesOnceAtItsOwnStation(Check check) {
         BallotFoundry x = Ready.twoStations();
@@ -512,7 +515,8 @@ final class TermsElectionSentences {
 
     @Sentence("When the day of the election ends, all envelopes that are SEALED are OPENED,")
     @Broken(from = "election.openAllSealed();")
-    @Broken(at = "void openAllSealed()", from = "envelopes.states[envelope] == SEALED", to = "envelopes.states[envelope] != OPENED")
+    @Broken(at = "void openAllSealed()", from = "envelopes.states[envelope] == SEALED",
+        to = "envelopes.states[envelope] != OPENED")
     @Broken(at = "void openAllSealed()", from = "envelope < envelopes.size", to = "envelope < envelopes.size - 1")
     static void dayEndOpensAllSealed(Check check) {
         BallotFoundry x = Ready.early(3);

@@ -56,7 +56,8 @@ final class TermsTownSentences {
     @Broken(at = "public int vote(", from = "if (election.roll.hasVoted",
         to = "election.book.write(now, 'v', person); if (election.roll.hasVoted")
     @Broken(at = "public int open(", from = "int envelope =", to = "election.castFor(person, 0); int envelope =")
-    @Broken(at = "public int setSlip(", from = "if (slip == 1)", to = "if (slip == 1) { slips[clerk] = 9; } if (slip == 1)")
+    @Broken(at = "public int setSlip(", from = "if (slip == 1)",
+        to = "if (slip == 1) { slips[clerk] = 9; } if (slip == 1)")
     @Broken(at = "public boolean count(", from = "if (box.hasNumbers())",
         to = "election.book.write(now, 'c', station); if (box.hasNumbers())")
     @Broken(at = "public int recount(", from = "needStage(COUNTING);",
@@ -295,7 +296,8 @@ final class TermsTownSentences {
     }
 
     @Sentence("there is none, if none lead.")
-    @Broken(from = "return measured[crossing];", to = "return measured[crossing] == NONE ? CROSSINGS : measured[crossing];")
+    @Broken(from = "return measured[crossing];",
+        to = "return measured[crossing] == NONE ? CROSSINGS : measured[crossing];")
     static void noWayIfNoneLead(Check check) {
         BallotFoundry x = new BallotFoundry();
         x.bar(0, 1, true);
@@ -380,7 +382,8 @@ final class TermsTownSentences {
     @Sentence("on each day it dwells where it came last, up to that day")
     @Broken(from = "stay.day <= day", to = "stay.day < day")
     @Broken(from = "stay.day <= day", to = "stay.day == day")
-    @Broken(from = "who.latest = new Stay(now, crossing, who.latest);", to = "who.latest = new Stay(now, crossing, null);")
+    @Broken(from = "who.latest = new Stay(now, crossing, who.latest);",
+        to = "who.latest = new Stay(now, crossing, null);")
     static void peopleDwellWhereTheyCameLast(Check check) {
         BallotFoundry x = new BallotFoundry();
         x.person(1, 0);
@@ -436,7 +439,8 @@ final class TermsTownSentences {
     @Sentence({"Stations are numbered from 0;", "there can be 5."})
     @Broken(from = "MOST_STATIONS = 5", to = "MOST_STATIONS = 4")
     @Broken(from = "MOST_STATIONS = 5", to = "MOST_STATIONS = 6")
-    @Broken(from = "return size - 1; } } private static final class Stay", to = "return size; } } private static final class Stay")
+    @Broken(from = "return size - 1; } } private static final class Stay",
+        to = "return size; } } private static final class Stay")
     static void stationsAreFive(Check check) {
         BallotFoundry x = new BallotFoundry();
         for (int station = 0; station < 5; station++) {

@@ -208,7 +208,8 @@ final class TownSentences {
     @Sentence(promise = 4, value = "`seats`: 0 to 20")
     @Broken(at = "public int station(", from = "needRange(seats, 0, MOST_STATION_SEATS);",
         to = "needRange(seats, 1, MOST_STATION_SEATS);")
-    @Broken(at = "public int station(", from = "needRange(seats, 0, MOST_STATION_SEATS);", to = "needRange(seats, 0, 19);")
+    @Broken(at = "public int station(", from = "needRange(seats, 0, MOST_STATION_SEATS);",
+        to = "needRange(seats, 0, 19);")
     @Broken(from = "return stations.add(crossing, seats);", to = "return stations.add(crossing, Math.min(seats, 19));")
     static void stationTakesSeats(Check check) {
         BallotFoundry x = new BallotFoundry();
@@ -253,7 +254,8 @@ final class TownSentences {
 
     @Sentence(promise = 4, value = "Throws `IllegalStateException` if there are 5")
     @Broken(from = "if (stations.size >= MOST_STATIONS) { throw new IllegalStateException(\"no more stations\"); }")
-    @Broken(from = "if (stations.size >= MOST_STATIONS) { throw", to = "if (stations.size >= MOST_STATIONS - 1) { throw")
+    @Broken(from = "if (stations.size >= MOST_STATIONS) { throw",
+        to = "if (stations.size >= MOST_STATIONS - 1) { throw")
     static void stationsAreFiveAtMost(Check check) {
         check.refused("the sixth", Check.STATE, TownSentences::withFiveStations, x -> x.station(5, 5));
         BallotFoundry x = withFiveStations();

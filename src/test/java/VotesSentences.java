@@ -42,7 +42,8 @@ final class VotesSentences {
         to = "election.envelopes.add(person, party); return 0;")
     @Broken(at = "public int early(", from = "return election.envelopes.add(person, party);",
         to = "return election.envelopes.size;")
-    @Broken(at = "public int early(", from = "election.envelopes.add(person, party)", to = "election.envelopes.add(0, party)")
+    @Broken(at = "public int early(", from = "election.envelopes.add(person, party)",
+        to = "election.envelopes.add(0, party)")
     static void earlyTellsTheEnvelope(Check check) {
         BallotFoundry x = Ready.early(3);
         int[] people = {2, 0, 2, 1, 0};
@@ -67,7 +68,8 @@ final class VotesSentences {
     @Sentence(promise = 18, value = "`party`: 0 to 4, or BLANK")
     @Broken(at = "public int early(", from = "needRange(party, 0, BLANK);", to = "needRange(party, 1, BLANK);")
     @Broken(at = "public int early(", from = "needRange(party, 0, BLANK);", to = "needParty(party);")
-    @Broken(from = "people[size] = person; ballots[size] = ballot;", to = "people[size] = person; ballots[size] = ballot % 5;")
+    @Broken(from = "people[size] = person; ballots[size] = ballot;",
+        to = "people[size] = person; ballots[size] = ballot % 5;")
     static void earlyTakesEachParty(Check check) {
         BallotFoundry x = Ready.early(6);
         for (int party = 0; party <= BallotFoundry.BLANK; party++) {
@@ -104,7 +106,8 @@ final class VotesSentences {
 
     @Sentence(promise = 18, value = "Throws `IllegalStateException` if it is not EARLY,")
     @Broken(at = "public int early(", from = "needStage(EARLY);")
-    @Broken(at = "public int early(", from = "needStage(EARLY);", to = "if (election.stage > VOTING) { needStage(EARLY); }")
+    @Broken(at = "public int early(", from = "needStage(EARLY);",
+        to = "if (election.stage > VOTING) { needStage(EARLY); }")
     static void earlyNeedsItsStage(Check check) {
         for (int stage = 0; stage < Ready.STAGES; stage++) {
             int at = stage;
@@ -155,7 +158,8 @@ final class VotesSentences {
     }
 
     @Sentence(promise = 18, value = "or there are 60 envelopes")
-    @Broken(from = "if (election.envelopes.size >= MOST_ENVELOPES) { throw new IllegalStateException(\"no more envelopes\"); }")
+    @Broken(from = "if (election.envelopes.size >= MOST_ENVELOPES) "
+        + "{ throw new IllegalStateException(\"no more envelopes\"); }")
     @Broken(at = "public int early(", from = "needOnRoll(person);", to = "needOnRoll(person); voidEnvelopeOf(person);")
     @Broken(from = "MOST_ENVELOPES = 60", to = "MOST_ENVELOPES = 59")
     @Broken(from = "MOST_ENVELOPES = 60", to = "MOST_ENVELOPES = 61")
@@ -174,7 +178,8 @@ final class VotesSentences {
 
     @Sentence(promise = 19, value = {"A person votes at a station.",
         "Returns how many ballots the box of the station has then."})
-    @Broken(at = "public int vote(", from = "return election.boxes[station].size;", to = "return election.boxes[0].size;")
+    @Broken(at = "public int vote(", from = "return election.boxes[station].size;",
+        to = "return election.boxes[0].size;")
     @Broken(at = "public int vote(", from = "election.castFor(person, party); return election.boxes[station].size;",
         to = "int had = election.boxes[station].size; election.castFor(person, party); return had;")
     @Broken(at = "void put(int ballot)", from = "size < MOST_PEOPLE", to = "size < MOST_PEOPLE - 1")
@@ -200,22 +205,11 @@ final class VotesSentences {
         check.due("the first", x.vote(0, 0, 1), 2);
     }
 
-    private static BallotFoundry votingAtFive() {
-        BallotFoundry x = new BallotFoundry();
-        for (int station = 0; station < 5; station++) {
-            x.station(station, 1);
-            x.person(station, 0);
-        }
-        x.call(8, 0, false);
-        x.advance(8);
-        return x;
-    }
-
     @Sentence(promise = 19, value = "`station`: a station")
     @Broken(at = "public int vote(", from = "needStation(station);", to = "needStation(station - 1);")
     @Broken(at = "public int vote(", from = "needStation(station);", to = "needStation(station + 1);")
     static void voteTakesEachStation(Check check) {
-        BallotFoundry x = votingAtFive();
+        BallotFoundry x = Ready.votingAtFive();
         check.due("the first", x.vote(0, 0, 1), 1);
         check.due("the last", x.vote(4, 4, 1), 1);
         check.due("the box of the last", x.ballots(4), 1);
@@ -224,7 +218,8 @@ final class VotesSentences {
     @Sentence(promise = 19, value = "`party`: 0 to 4, or BLANK")
     @Broken(at = "public int vote(", from = "needRange(party, 0, BLANK);", to = "needRange(party, 1, BLANK);")
     @Broken(at = "public int vote(", from = "needRange(party, 0, BLANK);", to = "needParty(party);")
-    @Broken(at = "public int vote(", from = "election.castFor(person, party);", to = "election.castFor(person, party % 5);")
+    @Broken(at = "public int vote(", from = "election.castFor(person, party);",
+        to = "election.castFor(person, party % 5);")
     static void voteTakesEachParty(Check check) {
         BallotFoundry x = Ready.counting(0, 1, 2, 3, 4, BallotFoundry.BLANK);
         Ready.settle(x, 0);
@@ -248,7 +243,7 @@ final class VotesSentences {
             check.refused("the station " + station, Check.INDEX, VotesSentences::votingWithEnvelopes,
                 x -> x.vote(0, station, 1));
         }
-        check.refused("of five, the station 5", Check.INDEX, VotesSentences::votingAtFive, x -> x.vote(0, 5, 1));
+        check.refused("of five, the station 5", Check.INDEX, Ready::votingAtFive, x -> x.vote(0, 5, 1));
         check.refused("of twenty, the person 20", Check.INDEX, () -> Ready.voting(20), x -> x.vote(20, 0, 1));
     }
 
@@ -265,7 +260,8 @@ final class VotesSentences {
 
     @Sentence(promise = 19, value = "Throws `IllegalStateException` if it is not VOTING,")
     @Broken(at = "public int vote(", from = "needStage(VOTING);")
-    @Broken(at = "public int vote(", from = "needStage(VOTING);", to = "if (election.stage < VOTING) { needStage(VOTING); }")
+    @Broken(at = "public int vote(", from = "needStage(VOTING);",
+        to = "if (election.stage < VOTING) { needStage(VOTING); }")
     static void voteNeedsItsStage(Check check) {
         for (int stage = 0; stage < Ready.STAGES; stage++) {
             int at = stage;
@@ -281,7 +277,8 @@ final class VotesSentences {
     }
 
     @Sentence(promise = 19, value = "the person is not on the roll,")
-    @Broken(at = "public int vote(", from = "needOnRoll(person);", to = "election.roll.stationsOfPeople[person] = station;")
+    @Broken(at = "public int vote(", from = "needOnRoll(person);",
+        to = "election.roll.stationsOfPeople[person] = station;")
     static void voteNeedsTheRoll(Check check) {
         check.refused("came behind it", Check.STATE, VotesSentences::votingWithAnother, x -> x.vote(2, 0, 1));
         BallotFoundry y = Ready.town(1);
@@ -316,7 +313,8 @@ final class VotesSentences {
     }
 
     @Sentence(promise = 19, value = "or has voted,")
-    @Broken(at = "public int vote(", from = "if (election.roll.hasVoted[person]) { throw new IllegalStateException(\"the person has voted\"); }")
+    @Broken(at = "public int vote(",
+        from = "if (election.roll.hasVoted[person]) { throw new IllegalStateException(\"the person has voted\"); }")
     @Broken(from = "roll.hasVoted[person] = true;", to = "roll.hasVoted[0] = true;")
     static void voteNeedsWhoHasNotVoted(Check check) {
         check.refused("by a vote", Check.STATE, VotesSentences::votingWithVotes, x -> x.vote(1, 0, 1));
@@ -332,9 +330,12 @@ final class VotesSentences {
     }
 
     @Sentence(promise = 19, value = "or this is not its station")
-    @Broken(from = "if (election.roll.stationFor(person) != station) { throw new IllegalStateException(\"another station is the person's\"); }")
-    @Broken(from = "if (election.roll.stationFor(person) != station) {", to = "if (election.roll.stationFor(person) < station) {")
-    @Broken(from = "if (election.roll.stationFor(person) != station) {", to = "if (election.roll.stationFor(person) > station) {")
+    @Broken(from = "if (election.roll.stationFor(person) != station) "
+        + "{ throw new IllegalStateException(\"another station is the person's\"); }")
+    @Broken(from = "if (election.roll.stationFor(person) != station) {",
+        to = "if (election.roll.stationFor(person) < station) {")
+    @Broken(from = "if (election.roll.stationFor(person) != station) {",
+        to = "if (election.roll.stationFor(person) > station) {")
     static void voteNeedsItsStation(Check check) {
         check.refused("of the station 0, at 1", Check.STATE, VotesSentences::votingWithEnvelopes, x -> x.vote(0, 1, 1));
         check.refused("of the station 1, at 0", Check.STATE, VotesSentences::votingWithEnvelopes, x -> x.vote(3, 0, 1));
@@ -392,7 +393,8 @@ final class VotesSentences {
     static void openNeedsAPerson(Check check) {
         int[] nobody = {-1, 4, 20, -FAR - 1, FAR};
         for (int person : nobody) {
-            check.refused("the person " + person, Check.INDEX, VotesSentences::votingWithEnvelopes, x -> x.open(person));
+            check.refused("the person " + person, Check.INDEX, VotesSentences::votingWithEnvelopes,
+                x -> x.open(person));
         }
         check.refused("of twenty, the person 20", Check.INDEX, () -> Ready.voting(20), x -> x.open(20));
     }
@@ -412,7 +414,8 @@ final class VotesSentences {
     }
 
     @Sentence(promise = 20, value = "or the person has no SEALED envelope")
-    @Broken(at = "public int open(", from = "if (envelope == NONE) { throw new IllegalStateException(\"no sealed envelope\"); }")
+    @Broken(at = "public int open(",
+        from = "if (envelope == NONE) { throw new IllegalStateException(\"no sealed envelope\"); }")
     @Broken(from = "people[envelope] == person && states[envelope] == SEALED", to = "people[envelope] == person")
     @Broken(from = "people[envelope] == person && states[envelope] == SEALED", to = "states[envelope] == SEALED")
     static void openNeedsASealedEnvelope(Check check) {
@@ -496,10 +499,12 @@ final class VotesSentences {
         check.fails("of sixty, the envelope 60", Check.INDEX, () -> earlyWithSixty().stateOf(60));
     }
 
-    @Sentence(promise = 23, value = {"Returns the person of an envelope of the latest election.", "Returns the person."})
+    @Sentence(promise = 23, value = {"Returns the person of an envelope of the latest election.",
+        "Returns the person."})
     @Broken(at = "public int personOf(", from = "return election.envelopes.people[envelope];",
         to = "return election.envelopes.people[0];")
-    @Broken(from = "people[size] = person; ballots[size] = ballot;", to = "people[size] = size; ballots[size] = ballot;")
+    @Broken(from = "people[size] = person; ballots[size] = ballot;",
+        to = "people[size] = size; ballots[size] = ballot;")
     static void personOfTellsThePerson(Check check) {
         BallotFoundry x = Ready.early(3);
         x.early(2, 1);
@@ -543,7 +548,8 @@ final class VotesSentences {
 
     @Sentence(promise = 24, value = {
         "Returns how many ballots there are in the box of a station, in the latest election.", "Returns how many."})
-    @Broken(at = "public int ballots(", from = "return election.boxes[station].size;", to = "return election.boxes[0].size;")
+    @Broken(at = "public int ballots(", from = "return election.boxes[station].size;",
+        to = "return election.boxes[0].size;")
     @Broken(at = "public int ballots(", from = "return election.boxes[station].size;",
         to = "return Math.min(election.boxes[station].size, 19);")
     @Broken(from = "boxes[station].clear();")
@@ -571,7 +577,7 @@ final class VotesSentences {
     @Broken(at = "public int ballots(", from = "needStation(station);", to = "needStation(station - 1);")
     @Broken(at = "public int ballots(", from = "needStation(station);", to = "needStation(station + 1);")
     static void ballotsTakesEachStation(Check check) {
-        BallotFoundry x = votingAtFive();
+        BallotFoundry x = Ready.votingAtFive();
         x.vote(4, 4, 1);
         check.due("the first", x.ballots(0), 0);
         check.due("the last", x.ballots(4), 1);
@@ -587,6 +593,6 @@ final class VotesSentences {
             check.refused("two, but not " + station, Check.INDEX, VotesSentences::votingWithEnvelopes,
                 x -> x.ballots(station));
         }
-        check.refused("five", Check.INDEX, VotesSentences::votingAtFive, x -> x.ballots(5));
+        check.refused("five", Check.INDEX, Ready::votingAtFive, x -> x.ballots(5));
     }
 }

@@ -1,9 +1,13 @@
 import java.lang.reflect.Field;
+import java.lang.reflect.Method;
 import java.lang.reflect.Modifier;
 import java.nio.file.Files;
 import java.nio.file.Path;
+import java.util.ArrayList;
 import java.util.List;
+import java.util.Map;
 import java.util.Set;
+import java.util.TreeMap;
 import java.util.TreeSet;
 import java.util.regex.Matcher;
 import java.util.regex.Pattern;
@@ -12,6 +16,10 @@ import java.util.regex.Pattern;
 public final class LanguageTest {
     private static final Check check = new Check("LanguageTest");
     private static final Set<String> LIBRARY = Set.of("Arrays.fill", "Integer.compare", "Math.max");
+    private static final int MOST_DEEP = 8;
+    // a class inside, or a method with its indent, name and parameters
+    private static final Pattern METHOD = Pattern.compile("(?m)^    [a-z ]*\\bclass ([A-Za-z]+) \\{$"
+        + "|^( {4}| {8})(?:public |private |static )*(?:[A-Za-z]+(?:\\[\\])* )?([A-Za-z]+)\\(([^)]*)\\)[^;{]*\\{$");
     private static final List<String> REFUSED = List.of("->", "::", "\\btry\\b", "\\bcatch\\b", "\\bfinally\\b",
         "\\bsynchronized\\b", "\\bassert\\b", "\\bpackage\\b", "\\bprotected\\b", "\\bSystem\\b", "\\bObject\\b",
         "\\bstatic\\s*\\{", "\\.fill\\(\\w+, (true|false)\\)", "\"\\s*\\+", "\\+\\s*\"", "\\bequals\\b",
@@ -27,6 +35,7 @@ public final class LanguageTest {
         library(code);
         exceptions(code);
         sizes(code);
+        calls(code);
         fields(BallotFoundry.class);
         for (Class<?> inside : BallotFoundry.class.getDeclaredClasses()) {
             fields(inside);
@@ -89,6 +98,70 @@ public final class LanguageTest {
             depth = Math.max(depth, lines[at].length() - lines[at].replaceAll("^ +", "").length());
         }
         check.due("blocks are not deep", depth <= 24, true);
+    }
+
+    private static void calls(String code) {
+        Map<String, String> bodies = new TreeMap<>();
+        Matcher head = METHOD.matcher(code);
+        String type = "BallotFoundry";
+        while (head.find()) {
+            if (head.group(1) != null) {
+                type = head.group(1);
+                continue;
+            }
+            String body = code.substring(head.end(), code.indexOf("\n" + head.group(2) + "}", head.end()));
+            String name = (head.group(2).length() == 4 ? "BallotFoundry" : type) + "." + head.group(3);
+            bodies.put(name, body);
+            check.due("parameters of " + name + ", at most seven", head.group(4).split(",").length <= 7, true);
+        }
+        List<Class<?>> types = new ArrayList<>(List.of(BallotFoundry.class.getDeclaredClasses()));
+        types.add(BallotFoundry.class);
+        for (Class<?> own : types) {
+            for (Method method : own.getDeclaredMethods()) {
+                String name = own.getSimpleName() + "." + method.getName();
+                check.due("the body of " + name + " is found", bodies.containsKey(name), true);
+            }
+        }
+        Map<String, Set<String>> called = new TreeMap<>();
+        for (String name : bodies.keySet()) {
+            called.put(name, calledBy(name, bodies));
+        }
+        for (String name : called.keySet()) {
+            check.due("calls from " + name + ", at most eight deep", deepest(name, called, 1) <= MOST_DEEP, true);
+        }
+    }
+
+    /** A call behind a dot may be any method of that name in another class, so nothing is missed. */
+    private static Set<String> calledBy(String name, Map<String, String> bodies) {
+        Set<String> names = new TreeSet<>();
+        String type = name.substring(0, name.indexOf('.'));
+        Matcher call = Pattern.compile("(\\.|\\bnew )?\\b([A-Za-z]+)\\(").matcher(bodies.get(name));
+        while (call.find()) {
+            String own = type + "." + call.group(2);
+            boolean isOfAnother = false;
+            for (String other : bodies.keySet()) {
+                boolean isNamed = other.endsWith("." + call.group(2));
+                if (isNamed && call.group(1) != null && !other.equals(own)) {
+                    names.add(other);
+                    isOfAnother = true;
+                }
+            }
+            if (!isOfAnother && bodies.containsKey(own)) {
+                names.add(own);
+            }
+        }
+        return names;
+    }
+
+    private static int deepest(String name, Map<String, Set<String>> called, int depth) {
+        int most = depth;
+        // a method that calls itself goes deeper than any bound
+        if (depth <= MOST_DEEP) {
+            for (String next : called.get(name)) {
+                most = Math.max(most, deepest(next, called, depth + 1));
+            }
+        }
+        return most;
     }
 
     private static void fields(Class<?> type) {
